@@ -2,7 +2,7 @@ import java.util.Random;
 
 /** All promises: runs of 512 calls by a seeded source, each answer compared with PlainTriples. */
 public final class ComparedRunsTest {
-    private static final int RUNS = 600;
+    private static final int RUNS = 240;
     private static final int CALLS = 512;
     private static final Check CHECK = new Check();
 

@@ -320,5 +320,10 @@ public final class QuestionTest {
         CHECK.due("15: the sixtieth", x.run(-1, -1, -1), 1);
         x.where(3, 3, 0);
         CHECK.due("15: the one that is not there", x.run(-1, -1, -1), 0);
+        x.clear();
+        x.where(0, 2, 33);
+        x.where(33, 3, 34);
+        x.where(34, 32, 3);
+        CHECK.due("15: no 3, 3, x", x.run(32, 33, 34), 3 * (4 + 4 + 4 + 3));
     }
 }

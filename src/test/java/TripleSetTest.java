@@ -228,12 +228,18 @@ public final class TripleSetTest {
         SixfoldTriples x = Check.withWords(24);
         int[][] put = new int[60][];
         int count = 0;
-        for (int i = 0; count < 60; i++) {
-            int[] triple = {i * 7 % 24, i * i % 5 * 4, 23 - i * 11 % 24};
+        // Few different terms for each part, so that every way has to look at all three parts.
+        for (int i = 0; i < 125 && count < 60; i++) {
+            int scattered = i * 57 % 125;
+            int[] triple = {scattered / 25 * 5, 23 - scattered / 5 % 5, scattered % 5 * 3};
             if (x.insert(triple[0], triple[1], triple[2]) == 1) {
                 put[count] = triple;
                 count++;
             }
+        }
+        CHECK.due("6: all are put", count, 60);
+        if (count < 60) {
+            return;
         }
         comparedInAllWays(x, put);
         for (int i = 0; i < 25; i++) {
