@@ -1,101 +1,126 @@
+import java.util.ArrayList;
+import java.util.Collections;
+import java.util.List;
 import java.util.Random;
 
-/** All promises: runs of 512 calls by a seeded source, each answer compared with PlainTriples. */
+/** All promises: runs of calls by a seeded source, each answer compared with PlainTriples. */
 public final class ComparedRunsTest {
-    private static final int RUNS = 240;
-    private static final int CALLS = 512;
+    private static final int RUNS = 1500;
+    /** The document promises nothing about later calls on one object. */
+    private static final int MOST_CALLS = 512;
+    private static final int MOST_CALLS_OF_A_STEP = 8;
     private static final Check CHECK = new Check();
 
     private final Random source;
     private final int seed;
-    private final int wordCount;
     private final SixfoldTriples x = new SixfoldTriples();
     private final PlainTriples plain = new PlainTriples();
+    private int calls = 0;
 
     private ComparedRunsTest(int seed) {
         this.seed = seed;
         source = new Random(seed);
-        // Few words make triples meet; many words reach the limits of the dictionary.
-        wordCount = seed % 60 == 0 ? 26 : 1 + source.nextInt(7);
     }
 
     public static void main(String[] args) {
         for (int seed = 0; seed < RUNS && CHECK.isClean(); seed++) {
-            new ComparedRunsTest(seed).calls();
+            new ComparedRunsTest(seed).go();
         }
         CHECK.end();
     }
 
-    private void calls() {
-        int made = 0;
+    private void go() {
+        // Few words make triples meet; many words reach the limits of the dictionary.
+        int wordCount = seed % 60 == 0 ? 26 : 1 + source.nextInt(7);
         for (int i = 0; i < wordCount; i++) {
-            made += word(i);
+            word(i);
         }
-        while (made < CALLS && CHECK.isClean()) {
-            made += oneCall();
+        // Some runs begin with so many triples that there is soon no room for more.
+        int early = seed % 4 == 0 ? 100 : source.nextInt(20);
+        for (int i = 0; i < early; i++) {
+            insert();
+        }
+        while (calls <= MOST_CALLS - MOST_CALLS_OF_A_STEP && CHECK.isClean()) {
+            step();
         }
     }
 
+    /** Tells of one call, which both objects have answered. */
     private void due(String call, long got, long want) {
-        CHECK.due("seed " + seed + ": " + call, got, want);
+        calls++;
+        CHECK.due("seed " + seed + ", call " + calls + ": " + call, got, want);
     }
 
-    private int letter(char c) {
-        due("letter " + (int) c, x.letter(c) ? 1 : 0, plain.letter(c) ? 1 : 0);
-        return 1;
-    }
-
-    private int word(int i) {
-        letter((char) ('a' + i));
-        int extra = source.nextInt(5) == 0 ? letter((char) (30 + source.nextInt(100))) : 0;
-        due("intern()", x.intern(), plain.intern());
-        return 2 + extra;
-    }
-
-    private int oneCall() {
+    private void step() {
         int kind = source.nextInt(100);
-        if (kind < 3) {
-            return word(source.nextInt(26));
-        }
-        if (kind < 40) {
-            change();
-        } else if (kind < 43) {
+        if (kind < 4) {
+            word(source.nextInt(26));
+        } else if (kind < 25) {
+            insert();
+        } else if (kind < 37) {
+            remove();
+        } else if (kind < 39) {
             due("merge()", x.merge(), plain.merge());
-        } else if (kind < 58) {
+        } else if (kind < 64) {
             ask();
-        } else if (kind < 70) {
+        } else if (kind < 86) {
             runQuestion();
         } else {
             look();
         }
-        return 1;
+    }
+
+    private void letter(char c) {
+        due("letter " + (int) c, x.letter(c) ? 1 : 0, plain.letter(c) ? 1 : 0);
+    }
+
+    private void word(int i) {
+        letter((char) ('a' + i));
+        if (source.nextInt(5) == 0) {
+            letter((char) (30 + source.nextInt(100)));
+        }
+        due("intern()", x.intern(), plain.intern());
     }
 
     private int term() {
         int words = plain.words();
-        return source.nextInt(40) == 0 ? source.nextInt(70) - 4 : source.nextInt(words + 1) % words;
+        return source.nextInt(60) == 0 ? source.nextInt(70) - 4 : source.nextInt(words + 1) % words;
+    }
+
+    private void insert() {
+        int subject = term();
+        int verb = source.nextInt(3) > 0 ? 0 : term();
+        int object = term();
+        due("insert(" + subject + ", " + verb + ", " + object + ")",
+                x.insert(subject, verb, object), plain.insert(subject, verb, object));
+        lookAtPending();
+    }
+
+    private void remove() {
+        int code = plain.triple(0, source.nextInt(plain.size() + 1));
+        boolean isThere = code >= 0 && source.nextInt(4) > 0;
+        int subject = isThere ? code / 1024 : term();
+        int verb = isThere ? code / 32 % 32 : term();
+        int object = isThere ? code % 32 : term();
+        due("remove(" + subject + ", " + verb + ", " + object + ")",
+                x.remove(subject, verb, object), plain.remove(subject, verb, object));
+        lookAtPending();
+    }
+
+    private void lookAtPending() {
+        if (source.nextInt(3) == 0) {
+            due("pending()", x.pending(), plain.pending());
+            due("merges()", x.merges(), plain.merges());
+        }
     }
 
     private int numberOfPattern() {
-        return source.nextBoolean() ? 32 + source.nextInt(source.nextInt(30) == 0 ? 4 : 3) : term();
-    }
-
-    private void change() {
-        int subject = term();
-        int verb = source.nextBoolean() ? 0 : term();
-        int object = term();
-        String terms = "(" + subject + ", " + verb + ", " + object + ")";
-        if (source.nextInt(4) == 0) {
-            due("remove" + terms, x.remove(subject, verb, object), plain.remove(subject, verb, object));
-        } else {
-            due("insert" + terms, x.insert(subject, verb, object), plain.insert(subject, verb, object));
-        }
-        due("pending()", x.pending(), plain.pending());
-        due("merges()", x.merges(), plain.merges());
+        return source.nextInt(5) < 3 ? 32 + source.nextInt(source.nextInt(30) == 0 ? 4 : 3) : term();
     }
 
     private void ask() {
-        if (source.nextInt(4) == 0) {
+        if (source.nextInt(5) == 0) {
+            calls++;
             x.clear();
             plain.clear();
             return;
@@ -108,49 +133,39 @@ public final class ComparedRunsTest {
     }
 
     private void runQuestion() {
-        int[] row = {32, 33, 34};
-        for (int i = 2; i > 0; i--) {
-            int j = source.nextInt(i + 1);
-            int kept = row[i];
-            row[i] = row[j];
-            row[j] = kept;
+        List<Integer> row = new ArrayList<>(plain.variables());
+        Collections.shuffle(row, source);
+        while (row.size() < 3) {
+            row.add(-1);
         }
-        tryRow(row[0], row[1], row[2]);
-        tryRow(row[0], row[1], -1);
-        tryRow(row[0], -1, -1);
-        tryRow(row[1], -1, -1);
-        tryRow(-1, -1, -1);
-        tryRow(row[0], row[source.nextInt(3)], source.nextInt(5) + 31);
-    }
-
-    private void tryRow(int first, int second, int third) {
-        due("run(" + first + ", " + second + ", " + third + ")",
-                x.run(first, second, third), plain.run(first, second, third));
+        if (source.nextInt(8) == 0) {
+            row.set(source.nextInt(3), source.nextInt(3) == 0 ? -1 : 31 + source.nextInt(5));
+        }
+        due("run(" + row + ")", x.run(row.get(0), row.get(1), row.get(2)),
+                plain.run(row.get(0), row.get(1), row.get(2)));
         due("live()", x.live(), plain.live());
-        for (int variable = 31; variable <= 35; variable++) {
-            for (int k = -1; k < 6; k++) {
-                compareAnswer(k, variable);
-            }
-            compareAnswer(source.nextInt(205), variable);
+        for (int i = 0; i < 6; i++) {
+            compareAnswer();
         }
     }
 
-    private void compareAnswer(int k, int variable) {
+    private void compareAnswer() {
+        int past = source.nextInt(4) == 0 ? 205 : plain.answerCount() + 1;
+        int k = source.nextInt(past + 1) - (source.nextInt(10) == 0 ? 1 : 0);
+        int variable = source.nextInt(10) == 0 ? 31 + source.nextInt(5) : 32 + source.nextInt(3);
         due("answer(" + k + ", " + variable + ")", x.answer(k, variable), plain.answer(k, variable));
     }
 
     private void look() {
-        int way = source.nextInt(8) - 1;
-        int k = source.nextInt(plain.size() + 2) - 1;
+        int way = source.nextInt(20) == 0 ? source.nextInt(10) - 2 : source.nextInt(6);
+        int k = source.nextInt(plain.size() + 2) - source.nextInt(2);
         due("triple(" + way + ", " + k + ")", x.triple(way, k), plain.triple(way, k));
         int term = source.nextInt(plain.words() + 2) - 1;
-        int i = source.nextInt(9) - 1;
+        int i = source.nextInt(5) - 1;
         due("spell(" + term + ", " + i + ")", x.spell(term, i), plain.spell(term, i));
         due("words()", x.words(), plain.words());
         due("size()", x.size(), plain.size());
-        due("pending()", x.pending(), plain.pending());
-        due("merges()", x.merges(), plain.merges());
         due("live()", x.live(), plain.live());
-        compareAnswer(source.nextInt(205) - 2, 31 + source.nextInt(5));
+        compareAnswer();
     }
 }

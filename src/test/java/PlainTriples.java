@@ -159,8 +159,7 @@ final class PlainTriples {
         while (!row.isEmpty() && row.get(row.size() - 1) == -1) {
             row.remove(row.size() - 1);
         }
-        Set<Integer> variables = new TreeSet<>();
-        question.forEach(pattern -> variables.addAll(variablesOf(pattern)));
+        Set<Integer> variables = variables();
         if (question.isEmpty() || row.size() != variables.size() || !variables.equals(new TreeSet<>(row))) {
             return -1;
         }
@@ -175,6 +174,13 @@ final class PlainTriples {
             }
         }
         return answers.size();
+    }
+
+    /** The variables of the question. */
+    Set<Integer> variables() {
+        Set<Integer> variables = new TreeSet<>();
+        question.forEach(pattern -> variables.addAll(variablesOf(pattern)));
+        return variables;
     }
 
     private static Set<Integer> variablesOf(List<Integer> pattern) {
@@ -247,6 +253,11 @@ final class PlainTriples {
             }
         }
         return true;
+    }
+
+    /** How many answers the latest run had. */
+    int answerCount() {
+        return answers.size();
     }
 
     int answer(int k, int variable) {

@@ -72,17 +72,20 @@ public final class QuestionTest {
 
     private static void rowsOfEveryQuestion() {
         for (int variables = 0; variables < 8; variables++) {
-            SixfoldTriples x = Check.withWords(1);
-            x.insert(0, 0, 0);
-            addPatternsWith(x, variables);
-            for (int a : ROW_NUMBERS) {
-                for (int b : ROW_NUMBERS) {
-                    for (int c : ROW_NUMBERS) {
-                        int want = isRowOf(variables, a, b, c) ? 1 : BAD;
-                        CHECK.due("15: run(" + a + ", " + b + ", " + c + ") with variables " + variables,
-                                x.run(a, b, c), want);
-                    }
-                }
+            for (int first : ROW_NUMBERS) {
+                rowsThatBegin(variables, first);
+            }
+        }
+    }
+
+    private static void rowsThatBegin(int variables, int first) {
+        SixfoldTriples x = Check.withWords(1);
+        x.insert(0, 0, 0);
+        addPatternsWith(x, variables);
+        for (int second : ROW_NUMBERS) {
+            for (int third : ROW_NUMBERS) {
+                CHECK.due("15: run(" + first + ", " + second + ", " + third + ") with variables " + variables,
+                        x.run(first, second, third), isRowOf(variables, first, second, third) ? 1 : BAD);
             }
         }
     }
@@ -262,6 +265,8 @@ public final class QuestionTest {
         CHECK.due("17: threes", x.live(), 24 + 24 * 24 + 24 * 24 * 24);
         for (int k = 0; k < 200; k++) {
             CHECK.due("16: threes, 32", x.answer(k, 32), k % 24);
+        }
+        for (int k = 23; k < 200; k += 11) {
             CHECK.due("16: threes, 33", x.answer(k, 33), k / 24);
             CHECK.due("16: threes, 34", x.answer(k, 34), 0);
         }

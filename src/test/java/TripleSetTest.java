@@ -83,7 +83,6 @@ public final class TripleSetTest {
         SixfoldTriples x = Check.withWords(4);
         for (int i = 0; i < 60; i++) {
             CHECK.due("6: insert number " + i, insertNumber(x, i), 1);
-            CHECK.due("9: size()", x.size(), i + 1);
             CHECK.due("10: pending()", x.pending(), i % 12 + 1);
             CHECK.due("11: merges()", x.merges(), i / 12);
         }
@@ -225,27 +224,26 @@ public final class TripleSetTest {
     }
 
     private static void sixOrders() {
-        SixfoldTriples x = Check.withWords(24);
-        int[][] put = new int[60][];
-        int count = 0;
-        // Few different terms for each part, so that every way has to look at all three parts.
-        for (int i = 0; i < 125 && count < 60; i++) {
+        int[][] triples = new int[60][];
+        for (int i = 0; i < 60; i++) {
+            // Few different terms for each part, so that every way has to look at all three parts.
             int scattered = i * 57 % 125;
-            int[] triple = {scattered / 25 * 5, 23 - scattered / 5 % 5, scattered % 5 * 3};
-            if (x.insert(triple[0], triple[1], triple[2]) == 1) {
-                put[count] = triple;
-                count++;
-            }
+            triples[i] = new int[] {scattered / 25 * 5, 23 - scattered / 5 % 5, scattered % 5 * 3};
         }
-        CHECK.due("6: all are put", count, 60);
-        if (count < 60) {
-            return;
-        }
-        comparedInAllWays(x, put);
+        comparedInAllWays(withTriples(triples), triples);
+        SixfoldTriples x = withTriples(triples);
         for (int i = 0; i < 25; i++) {
-            CHECK.due("7: remove", x.remove(put[i][0], put[i][1], put[i][2]), 1);
+            CHECK.due("7: remove", x.remove(triples[i][0], triples[i][1], triples[i][2]), 1);
         }
-        comparedInAllWays(x, Arrays.copyOfRange(put, 25, 60));
+        comparedInAllWays(x, Arrays.copyOfRange(triples, 25, 60));
+    }
+
+    private static SixfoldTriples withTriples(int[][] triples) {
+        SixfoldTriples x = Check.withWords(24);
+        for (int[] triple : triples) {
+            CHECK.due("6: insert", x.insert(triple[0], triple[1], triple[2]), 1);
+        }
+        return x;
     }
 
     private static void comparedInAllWays(SixfoldTriples x, int[][] triples) {
