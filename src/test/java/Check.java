@@ -19,6 +19,13 @@ final class Check {
         due(call, got ? 1L : 0L, want ? 1L : 0L);
     }
 
+    void due(String what, String got, String want) {
+        if (!got.equals(want)) {
+            wrong++;
+            System.out.println(what + ": " + got + ", due is " + want);
+        }
+    }
+
     boolean isClean() {
         return wrong == 0;
     }

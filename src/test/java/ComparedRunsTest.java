@@ -84,7 +84,12 @@ public final class ComparedRunsTest {
 
     private int term() {
         int words = plain.words();
-        return source.nextInt(60) == 0 ? source.nextInt(70) - 4 : source.nextInt(words + 1) % words;
+        return source.nextInt(60) == 0 ? oddNumber() : source.nextInt(words + 1) % words;
+    }
+
+    private int oddNumber() {
+        int far = Check.FAR_NUMBERS[source.nextInt(Check.FAR_NUMBERS.length)];
+        return source.nextInt(3) == 0 ? far : source.nextInt(70) - 4;
     }
 
     private void insert() {

@@ -128,7 +128,10 @@ public final class DictionaryEdgesTest {
         }
     }
 
-    /** Terms: "gives numbers 0, 1, .. to at most 24 different words, in the order in which they are first taken in" */
+    /**
+     * Terms: "gives numbers 0, 1, .. to at most 24 different words, in the order in which they are
+     * first taken in"
+     */
     private static void atMostTwentyFourWords() {
         SixfoldTriples x = new SixfoldTriples();
         for (int i = 0; i < 24; i++) {
@@ -203,6 +206,13 @@ public final class DictionaryEdgesTest {
         }
         Check.take(x, "new");
         CHECK.due("4: words() after one that has no room", x.words(), 24);
+        for (int words : new int[] {0, 1, 23, 24}) {
+            SixfoldTriples y = Check.withWords(words);
+            for (int length = 1; length <= 6; length++) {
+                y.letter('~');
+                CHECK.due("4: words() with " + words + " and " + length + " letters begun", y.words(), words);
+            }
+        }
     }
 
     /** Promise 5: "counted from 0; -1 when there is no such .. character" */

@@ -50,6 +50,7 @@ public final class QuestionEdgesTest {
         liveOfNoRun();
         liveOfNoVariables();
         liveFromTheFirstVariable();
+        liveBeforeAVariableIsBound();
         CHECK.end();
     }
 
@@ -235,7 +236,10 @@ public final class QuestionEdgesTest {
         }
     }
 
-    /** Promise 15: "or the row does not have each variable of the question once, and nothing else, before the -1 that fill it up" */
+    /**
+     * Promise 15: "or the row does not have each variable of the question once, and nothing else,
+     * before the -1 that fill it up"
+     */
     private static void rowsOfEveryQuestion() {
         for (int variables = 0; variables < 8; variables++) {
             for (int first : ROW_NUMBERS) {
@@ -423,6 +427,11 @@ public final class QuestionEdgesTest {
             CHECK.due("16: number " + k + " of all", code, Check.code(k / 16, k / 4 % 4, k % 4));
         }
         noAnswerFrom(x, 60);
+        x.where(34, 33, 32);
+        x.where(33, 34, 32);
+        x.where(32, 34, 33);
+        // What is missing is 3, 3 and any other: each of these in three orders, and 3, 3, 3.
+        CHECK.due("15: all of them with a full question", x.run(32, 33, 34), 64 - 3 * 3 - 1);
     }
 
     private static void noAnswerFrom(SixfoldTriples x, int past) {
@@ -512,7 +521,10 @@ public final class QuestionEdgesTest {
         }
     }
 
-    /** Promise 16: "a variable (32, 33 or 34); -1 when .. the question of that run did not have the variable" */
+    /**
+     * Promise 16: "a variable (32, 33 or 34); -1 when .. the question of that run did not have the
+     * variable"
+     */
     private static void variablesThatAreNot() {
         for (int variables = 0; variables < 8; variables++) {
             SixfoldTriples x = withOneTriple();
@@ -597,5 +609,27 @@ public final class QuestionEdgesTest {
         x.insert(1, 1, 1);
         CHECK.due("15: now it has one", x.run(32, -1, -1), 1);
         CHECK.due("17: now one is live", x.live(), 1);
+    }
+
+    /**
+     * Terms: "and for every pattern that has one of these i variables", but for no pattern that has
+     * only later ones
+     */
+    private static void liveBeforeAVariableIsBound() {
+        String[] rows = RIGHT_ROWS[7];
+        for (String text : rows) {
+            String[] row = text.split(",");
+            for (int place = 0; place < 3; place++) {
+                SixfoldTriples x = Check.withWords(2);
+                x.insert(0, 0, 0);
+                for (int i = 0; i < 3; i++) {
+                    x.where(Integer.parseInt(row[i]), 0, i == place ? 1 : 0);
+                }
+                String name = " with row " + text + ", whose variable " + place + " has no triple";
+                CHECK.due("15: run" + name, x.run(Integer.parseInt(row[0]), Integer.parseInt(row[1]),
+                        Integer.parseInt(row[2])), 0);
+                CHECK.due("17: live()" + name, x.live(), place);
+            }
+        }
     }
 }

@@ -7,6 +7,7 @@ public final class QuestionTest {
         repeatedVariables();
         answersInTheOrderOfTheRow();
         answersAreOfThatRun();
+        runForgetsTheRunBefore();
         liveBindings();
         manyTriples();
         CHECK.end();
@@ -91,6 +92,23 @@ public final class QuestionTest {
         CHECK.due("15: none", x.run(33, -1, -1), 0);
         CHECK.due("16: none", x.answer(0, 33), -1);
         CHECK.due("17: none", x.live(), 0);
+    }
+
+    private static void runForgetsTheRunBefore() {
+        for (int before = 0; before < 24; before++) {
+            SixfoldTriples x = Check.withWords(24);
+            int after = (before + 7) % 24;
+            x.where(32, 33, 34);
+            x.insert(before, before, before);
+            CHECK.due("15: run before", x.run(32, 33, 34), 1);
+            x.remove(before, before, before);
+            x.insert(after, after, after);
+            CHECK.due("15: run after " + before, x.run(32, 33, 34), 1);
+            CHECK.due("17: live() after " + before, x.live(), 3);
+            for (int variable = 32; variable <= 34; variable++) {
+                CHECK.due("16: answer(0, " + variable + ") after " + before, x.answer(0, variable), after);
+            }
+        }
     }
 
     private static void liveBindings() {

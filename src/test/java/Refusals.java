@@ -24,14 +24,11 @@ final class Refusals {
         check.due(label, refused.applyAsInt(x), want);
         List<String> stateAfter = State.after(callsBefore.andThen(refused::applyAsInt));
         for (int i = 0; i < stateBefore.size(); i++) {
-            String before = stateBefore.get(i);
-            check.due(label + " changes something, '" + before + "' is then '" + stateAfter.get(i)
-                    + "': unchanged", stateAfter.get(i).equals(before), true);
+            check.due("after " + label, stateAfter.get(i), stateBefore.get(i));
         }
     }
 
-    // ---- Objects that refuse.
-
+    /** A new object. */
     static void nothing(SixfoldTriples x) {
     }
 
@@ -55,7 +52,7 @@ final class Refusals {
 
     private static void ask(SixfoldTriples x) {
         x.where(32, 1, 33);
-        x.where(0, 32, 34);
+        x.where(33, 0, 34);
         x.run(33, 32, 34);
     }
 

@@ -297,7 +297,7 @@ public final class TripleSetEdgesTest {
     /** Terms: "When 12 triples are pending": with 11 no merge comes, whichever change is made. */
     private static void noMergeWithElevenPending() {
         for (int put = 1; put <= 10; put++) {
-            String name = "11 pending, " + put + " of them put in";
+            String name = "10: 11 pending, " + put + " of them put in";
             change(name + ", put a new one", put, 11 - put, x -> Check.insertNumber(x, 63), 12);
             change(name + ", take a settled one", put, 11 - put, x -> Check.removeNumber(x, 11), 12);
             change(name + ", take a pending one", put, 11 - put, x -> Check.removeNumber(x, 40), 10);
@@ -305,19 +305,22 @@ public final class TripleSetEdgesTest {
         }
     }
 
-    /** Terms: "When 12 triples are pending and the present set is to be changed by insert or remove, a merge comes first." */
+    /**
+     * Terms: "When 12 triples are pending and the present set is to be changed by insert or remove,
+     * a merge comes first."
+     */
     private static void mergeComesFirstWithTwelvePending() {
         for (int put = 1; put <= 11; put++) {
-            String name = "12 pending, " + put + " of them put in";
+            String name = "10: 12 pending, " + put + " of them put in";
             change(name + ", put a new one", put, 12 - put, x -> Check.insertNumber(x, 63), 1);
             change(name + ", take a settled one", put, 12 - put, x -> Check.removeNumber(x, 12), 1);
             change(name + ", take a pending one", put, 12 - put, x -> Check.removeNumber(x, 40), 1);
             change(name + ", put back a pending one", put, 12 - put, x -> Check.insertNumber(x, 0), 1);
         }
-        change("12 pending, all put in", 12, 0, x -> Check.insertNumber(x, 63), 1);
-        change("12 pending, all put in, one taken", 12, 0, x -> Check.removeNumber(x, 51), 1);
-        change("12 pending, all taken out", 0, 12, x -> Check.removeNumber(x, 12), 1);
-        change("12 pending, all taken out, one put back", 0, 12, x -> Check.insertNumber(x, 11), 1);
+        change("10: 12 pending, all put in", 12, 0, x -> Check.insertNumber(x, 63), 1);
+        change("10: 12 pending, all put in, one taken", 12, 0, x -> Check.removeNumber(x, 51), 1);
+        change("10: 12 pending, all taken out", 0, 12, x -> Check.removeNumber(x, 12), 1);
+        change("10: 12 pending, all taken out, one put back", 0, 12, x -> Check.insertNumber(x, 11), 1);
     }
 
     /** Promise 8: "how many triples were pending; none is then" */
